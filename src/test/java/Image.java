@@ -40,18 +40,23 @@ final class Image {
     }
 
     Image end() {
-        return end(rowsOfGroup.size());
+        return end(0, rowsOfGroup.size(), 0);
     }
 
-    /** Ends the group with a number of rows that may be a wrong one, under a right sum. */
-    Image end(int count) {
-        int last = 0;
+    /** Ends the group with two bytes that may be wrong ones, under a sum that is right for them. */
+    Image end(int mark, int count) {
+        return end(mark, count, 0);
+    }
+
+    /** The same, with the sum that the end's goes on from where the group has no rows. */
+    Image end(int mark, int count, int sumWithoutRows) {
+        int last = sumWithoutRows;
         for (byte[] row : rowsOfGroup) {
             out.writeBytes(row);
             last = ByteBuffer.wrap(row).getInt(row.length - 4);
         }
         rowsOfGroup.clear();
-        byte[] tail = {0, (byte) count};
+        byte[] tail = {(byte) mark, (byte) count};
         out.writeBytes(tail);
         out.writeBytes(ByteBuffer.allocate(4).putInt(sum(last, tail)).array());
         return this;

@@ -25,6 +25,7 @@ final class PromisesTest {
         same();
         formOfFiles();
         formOfGroupEnds();
+        groupThatIsNotWhole();
         numbersThatFollow();
         secondsThatFollow();
         rowsInAGroup();
@@ -527,7 +528,7 @@ final class PromisesTest {
             putRow(log, 1, 2);
             putRow(log, 1, 3);
             due("6: endGroup", log.endGroup(), true);
-            byte[] bad = new Image().row(0, 1, 2).row(1, 1, 3).end(count).bytes();
+            byte[] bad = new Image().row(0, 1, 2).row(1, 1, 3).end(0, count).bytes();
             forge(log, 0, old, bad);
             forge(log, 1, old, bad);
             due("6: two rows told as " + count, log.reopen(), 0);
@@ -557,6 +558,36 @@ final class PromisesTest {
         forge(log, 0, old, new Image().end().bytes());
         due("6: no rows", log.reopen(), 0);
         due("6: bad place", log.badAt(), 0);
+
+        MirrorLog behind = logWith(1, 1);
+        due("6: crash", behind.crash(1, 0), true);
+        due("6: crash", behind.crash(0, 24), true);
+        byte[] two = new Image().row(0, 1, 100).end().row(1, 1, 101).end().bytes();
+        int groupSum = java.nio.ByteBuffer.wrap(two).getInt(14);
+        byte[] empty = new Image().row(0, 1, 100).end().end(0, 0, groupSum).bytes();
+        forge(behind, 0, java.util.Arrays.copyOf(two, 24), empty);
+        due("6: no rows behind a good group", behind.reopen(), 1);
+        due("6: bad place", behind.badAt(), 18);
+    }
+
+    /** What a file lacks is not read as a byte 0 or 255: a group whose last byte is that is missed too. */
+    private static void groupThatIsNotWhole() {
+        int tried = 0;
+        for (int i = 0; i < 8192; i++) {
+            byte[] whole = new Image().row(0, i >> 8, i & 255).end().bytes();
+            int last = whole[17] & 255;
+            if (last != 0 && last != 255) {
+                continue;
+            }
+            tried |= last == 0 ? 1 : 2;
+            MirrorLog log = new MirrorLog();
+            putGroup(log, i >> 8, i & 255);
+            due("6: crash", log.crash(0, 17), true);
+            due("6: crash", log.crash(1, 17), true);
+            due("6: the last byte is missing, " + last, log.reopen(), 0);
+            due("6: bad place", log.badAt(), 0);
+        }
+        due("6: both last bytes were tried", tried, 3);
     }
 
     private static void dueBad(String what, byte[] old, byte[] bad, int kept) {
@@ -599,9 +630,10 @@ final class PromisesTest {
         putRow(log, 5, 2);
         due("6: endGroup", log.endGroup(), true);
         byte[] both = new Image().row(0, 5, 1).row(1, 5, 2).end().bytes();
-        byte[] below = new Image().row(0, 5, 1).row(1, 4, 2).end().bytes();
+        byte[] below = new Image().row(0, 5, 1).row(1, 4, 3).end().bytes();
         forge(log, 0, both, below);
-        due("6: below within a group: from file 1", log.reopen(), 2);
+        due("6: reopen", log.reopen(), 2);
+        due("6: below within a group: from file 1", log.byteAt(1, 0), 2);
         due("6: put right", log.repaired(), 1);
 
         MirrorLog moved = logWith(50, 60 + MONTH);
@@ -634,6 +666,24 @@ final class PromisesTest {
         forge(log, 0, old.bytes(), wanted.end().bytes());
         due("6: 17 rows are not", log.reopen(), 0);
         due("6: bad place", log.badAt(), 0);
+        noByte0BehindTheRows();
+    }
+
+    private static void noByte0BehindTheRows() {
+        MirrorLog log = new MirrorLog();
+        Image old = new Image();
+        Image wanted = new Image();
+        for (int i = 0; i < 16; i++) {
+            putRow(log, 1, i);
+            old.row(i, 1, i);
+            wanted.row(i, 1, i);
+        }
+        due("6: endGroup", log.endGroup(), true);
+        byte[] bad = wanted.end(1, 16).bytes();
+        byte[] good = old.end().bytes();
+        forge(log, 0, good, bad);
+        forge(log, 1, good, bad);
+        due("6: no byte 0 behind 16 rows", log.reopen(), 0);
     }
 
     private static void lengthsOfContents() {
